@@ -346,6 +346,7 @@ public final class Pistekeeper {
         requireWithin(warmth, -20, 20);
         requireWithin(humid, 0, 100);
         if (mountain.runs[run].guns < 1) {
+            // Both plays would be the same one.
             return 0;
         }
         weather.tell(warmth, 0, 0, 0, humid);
