@@ -47,7 +47,7 @@ final class Scene {
         Check.same("scene: run " + run + " opens", x.open(run), 0);
     }
 
-    /** Snow of 5, a dry hour, then so many hours of 9 and one of the last fall: 12 hard, and 1 more for each of them. */
+    /** Snow of 5, and a dry hour, make it 12 hard; then come so many hours of 9, and one of the last fall. */
     static Pistekeeper loaded(int slope, int hoursOfNine, int last) {
         Pistekeeper x = oneRun(slope, 0, 1);
         hours(x, 1, 0, 5);
